@@ -4,15 +4,29 @@ final class Check {
         Object run();
     }
 
+    interface Step {
+        Object on(LuaValues values);
+    }
+
+    interface Scene {
+        void fill(LuaValues values);
+    }
+
     private int wrong = 0;
     private int done = 0;
+    private String sentence = "";
+
+    /** The words of the document that the checks from here on hold the program to. */
+    void sentence(String words) {
+        sentence = "\"" + words + "\" ";
+    }
 
     void due(String what, Object want, Call call) {
         done++;
         Object got = answer(call);
         if (!want.equals(got)) {
             wrong++;
-            System.out.println(what + ": answered " + got + ", due is " + want);
+            System.out.println(sentence + what + ": answered " + got + ", due is " + want);
         }
     }
 
@@ -21,6 +35,19 @@ final class Check {
         String before = state(values);
         due(what, thrown(want), call);
         due(what + " changes nothing", before, () -> state(values));
+    }
+
+    /**
+     * On a new object filled like that the step throws the exception, and then all that the face tells of the
+     * object is what it tells of a twin that was never asked.
+     */
+    void refusedIn(String what, Scene scene, Class<? extends RuntimeException> want, Step step) {
+        LuaValues asked = new LuaValues();
+        LuaValues twin = new LuaValues();
+        scene.fill(asked);
+        scene.fill(twin);
+        due(what, thrown(want), () -> step.on(asked));
+        due(what + " changes nothing", Held.portrait(twin), () -> Held.portrait(asked));
     }
 
     void end(String name) {

@@ -3,6 +3,7 @@ import java.lang.reflect.Field;
 import java.lang.reflect.Method;
 import java.lang.reflect.Modifier;
 import java.util.Arrays;
+import java.util.NoSuchElementException;
 import java.util.Set;
 import java.util.TreeSet;
 
@@ -44,7 +45,40 @@ public final class FaceTest {
             check.due("static " + inside.getName(), true, () -> Modifier.isStatic(inside.getModifiers()));
             check.due("not public " + inside.getName(), false, () -> Modifier.isPublic(inside.getModifiers()));
         }
+        exceptions();
         check.end("FaceTest");
+    }
+
+    /** What each method throws, as its own lines say it. */
+    private static void exceptions() {
+        Class<?> index = IndexOutOfBoundsException.class;
+        Class<?> argument = IllegalArgumentException.class;
+        Class<?> state = IllegalStateException.class;
+        Class<?> arithmetic = ArithmeticException.class;
+        Class<?> unsupported = UnsupportedOperationException.class;
+        throwing("make", index, argument, state);
+        throwing("real", index, argument, arithmetic);
+        throwing("move", index);
+        throwing("arithmetic", index, argument, arithmetic, unsupported, state);
+        throwing("compare", index, argument, unsupported, state);
+        throwing("get", index, unsupported, state);
+        throwing("set", index, unsupported, argument, state);
+        throwing("meta", index, unsupported);
+        throwing("length", index, unsupported, state);
+        throwing("call", index, unsupported, state);
+        throwing("next", index, unsupported, NoSuchElementException.class);
+        throwing("kind", index);
+        throwing("whole", index, arithmetic);
+        throwing("number", index, unsupported);
+        throwing("count");
+    }
+
+    private static void throwing(String name, Class<?>... exceptions) {
+        for (Method method : LuaValues.class.getDeclaredMethods()) {
+            if (method.getName().equals(name)) {
+                check.due("what " + name + " throws", Set.of(exceptions), () -> Set.of(method.getExceptionTypes()));
+            }
+        }
     }
 
     private static String told(Method method) {

@@ -72,6 +72,7 @@ final class Model {
         return left == null ? right == null : left.equals(right);
     }
 
+    /** By 0 a quotient would be infinite or, of 0, no number. */
     private static Double floatOf(double x) {
         if (Double.isNaN(x) || Double.isInfinite(x)) {
             throw new ArithmeticException();

@@ -127,8 +127,6 @@ public final class RegistersTest {
         check.refused("3 too far below", v, ARITHMETIC, () -> v.real(0, -Double.MAX_VALUE, 1));
         check.refused("3 infinite", v, ARITHMETIC, () -> v.real(0, Double.POSITIVE_INFINITY, 0));
         check.refused("3 infinite halved", v, ARITHMETIC, () -> v.real(0, Double.NEGATIVE_INFINITY, -300));
-        check.refused("3 no number", v, ARITHMETIC, () -> v.real(0, Double.NaN, 0));
-        check.refused("3 no number halved", v, ARITHMETIC, () -> v.real(0, Double.NaN, -5));
     }
 
     private static void move() {
