@@ -148,6 +148,10 @@ public final class HandlersEdgesTest {
         check.due("another HANDLER", 4, () -> v.get(4, 0, 2, false));
         Held.entry(v, 1, 1L, Held.NIL);
         check.due("no HANDLER", 0, () -> v.get(4, 0, 2, false));
+        LuaValues full = with(GET, Held.NIL);
+        Held.entries(full, 1, 101, 129);
+        Held.entry(full, 1, 1L, new Held.Fn(2));
+        check.due("the 30th ENTRY of a full METATABLE", 2, () -> full.get(4, 0, 2, false));
     }
 
     /** With a HANDLER for one event alone, each of the seventeen things that may ask asks for its own. */
@@ -394,6 +398,11 @@ public final class HandlersEdgesTest {
         check.due("a nil KEY is the HANDLER's too", 0, () -> v.set(0, 11, 3, false));
         check.due("its CALL was done", 2, () -> v.count(3));
         check.due("raw asks none", 1, () -> v.set(0, 2, 3, true));
+        LuaValues no = with(SET, new Held.Fn(5));
+        Held.entry(no, 0, 5L, false);
+        check.due("an ENTRY that is false is changed", 1, () -> no.set(0, 2, 3, false));
+        check.due("it is changed", "5=77 ", () -> Held.walk(no, 0));
+        check.due("no CALL was done", 0, () -> no.count(3));
         LuaValues none = with(SET, Held.NIL);
         check.due("a METATABLE without the HANDLER", 1, () -> none.set(0, 2, 3, false));
         check.due("a nil KEY then", Check.thrown(ARGUMENT), () -> none.set(0, 11, 3, false));

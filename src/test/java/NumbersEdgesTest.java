@@ -413,6 +413,16 @@ public final class NumbersEdgesTest {
         check.due("or else of b", true, () -> second.compare(0, 0, 1));
         LuaValues no = twoTables(3, false, new Held.Fn(1));
         check.due("false is not nil", UNSUPPORTED, () -> no.compare(0, 0, 1));
+        LuaValues zero = twoTables(3, new Held.Fn(4), Held.NIL);
+        check.due("the result INT 0 is TRUE", true, () -> zero.compare(0, 0, 1));
+        LuaValues given = twoTables(3, new Held.Fn(3), Held.NIL);
+        check.due("the result nil is FALSE", false, () -> given.compare(0, 0, 1));
+        given.make(5, 1, 0);
+        given.set(0, 1, 5, true);
+        check.due("the result false is FALSE", false, () -> given.compare(0, 0, 1));
+        given.real(5, 0.0, 0);
+        given.set(0, 1, 5, true);
+        check.due("the result 0.0 is TRUE", true, () -> given.compare(0, 0, 1));
         LuaValues none = twoTables(3, Held.NIL, Held.NIL);
         check.due("without one", false, () -> none.compare(0, 0, 1));
         Object[] others = {Held.NIL, false, 0L, 0.5, new Held.Fn(1)};

@@ -175,6 +175,10 @@ public final class TablesEdgesTest {
         check.due("another in its place", "true=3 30=6 -5=7 ", () -> Held.walk(v, 0));
         Held.entry(v, 0, 99L, Held.NIL);
         check.due("nil for none", "true=3 30=6 -5=7 ", () -> Held.walk(v, 0));
+        v.make(1, 1, 1);
+        v.make(2, 2, 8);
+        v.set(0, 1, 2, false);
+        check.due("changed by a SET that is not raw", "true=8 30=6 -5=7 ", () -> Held.walk(v, 0));
     }
 
     private static void agesOfAFullTable() {
