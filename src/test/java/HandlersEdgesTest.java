@@ -32,6 +32,8 @@ public final class HandlersEdgesTest {
         getDepth();
         sets();
         setsOfHandlers();
+        setsToNil();
+        intoItsOwnRegisters();
         setsRefused();
         setDepth();
         lengths();
@@ -193,8 +195,9 @@ public final class HandlersEdgesTest {
     }
 
     private static void functions() {
-        check.sentence("a FUNCTION: 0 gives nil, 1 a, 2 b, 3 the RAW GET of a and b (nil if a is no TABLE), 4 the"
-                + " LENGTH of a as an INT (nil if no TABLE), 5 false if a is FALSE, else true.");
+        check.sentence("CALL of a VALUE f with a and b, at a DEPTH: a FUNCTION: 0 gives nil, 1 a, 2 b, 3 the RAW GET of"
+                + " a and b (nil if a is no TABLE), 4 the LENGTH of a as an INT (nil if no TABLE), 5 false if a is"
+                + " FALSE, else true.");
         LuaValues v = Held.with(Held.TABLE, 1L, 0.5, false, Held.TABLE, 2L, 0L);
         Held.entries(v, 0, 1, 2);
         Held.entry(v, 0, 0.5, true);
@@ -316,7 +319,8 @@ public final class HandlersEdgesTest {
     }
 
     private static void getsOfHandlers() {
-        check.sentence("it is a FUNCTION: CALL of h with t and k, one deeper; else GET of h and k, one deeper");
+        check.sentence("With a HANDLER h: it is a FUNCTION: CALL of h with t and k, one deeper; else GET of h and k,"
+                + " one deeper.");
         LuaValues first = with(GET, new Held.Fn(1));
         check.due("the first is t", 4, () -> first.get(4, 0, 2, false));
         check.due("the first is t", true, () -> first.compare(3, 4, 0));
@@ -343,6 +347,10 @@ public final class HandlersEdgesTest {
         Held.entryOf(called, 1, (long) GET, 4);
         check.due("a TABLE that could be called is asked all the same", 0, () -> called.get(6, 0, 2, false));
         check.due("it is not called", 0, () -> called.count(3));
+        LuaValues none = Held.chain(GET, 2, Held.NIL);
+        none.make(4, 2, 9);
+        check.due("nil as the KEY, of the second TABLE too", 0, () -> none.get(4, 0, 11, false));
+        check.due("nil is there", Held.NIL, () -> Held.in(none, 4));
     }
 
     private static void getsRefused() {
@@ -409,7 +417,8 @@ public final class HandlersEdgesTest {
     }
 
     private static void setsOfHandlers() {
-        check.sentence("a FUNCTION: CALL of h with t and k, one deeper; else SET of h, k to v, one deeper.");
+        check.sentence("With a HANDLER h: a FUNCTION: CALL of h with t and k, one deeper; else SET of h, k to v, one"
+                + " deeper.");
         LuaValues v = Held.chain(SET, 2, Held.NIL);
         v.make(2, 2, 5);
         v.make(3, 2, 77);
@@ -440,6 +449,43 @@ public final class HandlersEdgesTest {
         check.due("a TABLE that could be called is set all the same", 0, () -> called.set(0, 2, 3, false));
         check.due("it is not called", 0, () -> called.count(3));
         check.due("it is set", 1L, () -> called.whole(4));
+    }
+
+    private static void setsToNil() {
+        check.sentence("or there is no HANDLER for 2: RAW SET");
+        LuaValues v = with(SET, new Held.Fn(5));
+        check.due("nil without ENTRY is the HANDLER's", 0, () -> v.set(0, 2, 11, false));
+        check.due("its CALL was done", 1, () -> v.count(3));
+        check.refusedIn("nil without ENTRY for a HANDLER that is true", w -> fill(w, SET, true), UNSUPPORTED,
+                w -> w.set(0, 2, 11, false));
+        check.due("raw asks none", 0, () -> v.set(0, 2, 11, true));
+        check.due("no CALL was done", 1, () -> v.count(3));
+    }
+
+    private static void intoItsOwnRegisters() {
+        check.sentence("A TABLE may have a METATABLE.");
+        LuaValues v = with(GET, new Held.Fn(2));
+        Held.entry(v, 1, (long) LENGTH, new Held.Fn(0));
+        Held.entry(v, 1, (long) CALL, new Held.Fn(2));
+        Held.entry(v, 1, 10L, new Held.Fn(2));
+        for (int r = 4; r <= 7; r++) {
+            v.move(r, 0);
+        }
+        check.due("get into the register of t", 2, () -> v.get(4, 4, 2, false));
+        check.due("get into the register of t", 5L, () -> Held.in(v, 4));
+        check.due("length into the register of a", 0, () -> v.length(5, 5));
+        check.due("length into the register of a", Held.NIL, () -> Held.in(v, 5));
+        check.due("call into the register of f", 2, () -> v.call(6, 6, 2, 3));
+        check.due("call into the register of f", 5L, () -> Held.in(v, 6));
+        check.due("a sum into the register of a", 2, () -> v.arithmetic(0, 7, 7, 3));
+        check.due("a sum into the register of a", 77L, () -> Held.in(v, 7));
+        check.due("the TABLE in its other register has its METATABLE", 2, () -> v.get(8, 0, 3, false));
+        v.make(9, 4, 0);
+        v.set(9, 2, 0, true);
+        v.make(0, 0, 0);
+        v.get(4, 9, 2, true);
+        check.due("a TABLE got from an ENTRY has its METATABLE", 2, () -> v.get(4, 4, 3, false));
+        check.due("a TABLE got from an ENTRY has its METATABLE", 77L, () -> Held.in(v, 4));
     }
 
     private static void setsRefused() {

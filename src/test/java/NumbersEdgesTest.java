@@ -1,3 +1,6 @@
+import java.math.BigDecimal;
+import java.math.RoundingMode;
+
 /** The boundary cases of ARITHMETIC and COMPARING, sentence by sentence: promises 5 and 6. */
 public final class NumbersEdgesTest {
     private static final Class<IllegalArgumentException> ARGUMENT = IllegalArgumentException.class;
@@ -13,13 +16,18 @@ public final class NumbersEdgesTest {
     public static void main(String[] args) {
         wrapping();
         nearestFloat();
+        nearestFloatOfBoth();
+        infiniteResults();
         quotients();
         floorsOfInts();
+        floorsAndRemaindersOfEdges();
         floorsOfFloats();
         remainders();
         bits();
         negatives();
         handlers();
+        operandsNotAsSaid();
+        handlersThatAreTables();
         noHandler();
         operations();
         exactOrder();
@@ -44,7 +52,7 @@ public final class NumbersEdgesTest {
     }
 
     private static void wrapping() {
-        check.sentence("of two INTs wrapping INTs");
+        check.sentence("ARITHMETIC, operations: 0 + 1 - 2 * : of two INTs wrapping INTs");
         due(0, MAX, 1L, MIN);
         due(0, MIN, -1L, MAX);
         due(0, MIN, MIN, 0L);
@@ -78,6 +86,39 @@ public final class NumbersEdgesTest {
         due(2, LEAST, 0.75, LEAST);
     }
 
+    private static void nearestFloatOfBoth() {
+        check.sentence("the INT taken as the nearest FLOAT. 3 / : FLOATs always");
+        // 2^53 + 1 is three times a whole number; the nearest FLOAT, 2^53, is not.
+        long n = (1L << 53) + 1;
+        due(3, n, 3.0, 0x1p53 / 3);
+        due(3, n, 3L, 0x1p53 / 3);
+        due(3, 0x1p53, n, 1.0);
+        due(4, n, 3.0, (double) (n / 3 - 1));
+        due(4, n, 3L, n / 3);
+        due(5, n, 3L, 0L);
+    }
+
+    private static void infiniteResults() {
+        check.sentence("A FLOAT result that would be infinite: ArithmeticException.");
+        double most = Double.MAX_VALUE;
+        due(0, most, most, ZERO);
+        due(0, -most, -most, ZERO);
+        due(1, most, -most, ZERO);
+        due(1, -most, most, ZERO);
+        due(2, most, 2L, ZERO);
+        due(2, MIN, most, ZERO);
+        due(3, most, 0.5, ZERO);
+        due(3, MAX, LEAST, ZERO);
+        due(4, most, -0.5, ZERO);
+        due(4, 1L, LEAST, ZERO);
+        due(0, most, MAX, most);
+        due(1, most, most, 0.0);
+        due(2, most, -1L, -most);
+        due(3, most, 1L, most);
+        due(4, most, 2L, most / 2);
+        due(9, -most, 1L, most);
+    }
+
     private static void quotients() {
         check.sentence("3 / : FLOATs always; by 0: ArithmeticException.");
         due(3, 6L, 3L, 2.0);
@@ -98,7 +139,8 @@ public final class NumbersEdgesTest {
     }
 
     private static void floorsOfInts() {
-        check.sentence("of INTs an INT (-2^63 by -1 gives -2^63)");
+        check.sentence("4 // : the greatest whole number not above the quotient: of INTs an INT (-2^63 by -1 gives"
+                + " -2^63)");
         due(4, MIN, -1L, MIN);
         due(4, MIN, 1L, MIN);
         due(4, MIN, MIN, 1L);
@@ -123,6 +165,20 @@ public final class NumbersEdgesTest {
         due(4, 1L, -0.0, ZERO);
         due(4, 1.5, 0L, ZERO);
         due(4, 0.0, 0.0, ZERO);
+    }
+
+    private static void floorsAndRemaindersOfEdges() {
+        check.sentence("5 % : of INTs alone, with the sign of b: a less b times a // b, wrapping");
+        long[] edges = {MIN, MIN + 1, MIN / 2, -(1L << 53) - 1, -10, -3, -2, -1, 1, 2, 3, 10, (1L << 53) + 1, MAX / 2,
+            MAX - 1, MAX};
+        for (long a : edges) {
+            for (long b : edges) {
+                BigDecimal floor = BigDecimal.valueOf(a).divide(BigDecimal.valueOf(b), 0, RoundingMode.FLOOR);
+                long less = BigDecimal.valueOf(a).subtract(BigDecimal.valueOf(b).multiply(floor)).longValueExact();
+                due(4, a, b, floor.toBigInteger().longValue());
+                due(5, a, b, less);
+            }
+        }
     }
 
     private static void floorsOfFloats() {
@@ -264,6 +320,63 @@ public final class NumbersEdgesTest {
         }
     }
 
+    private static void operandsNotAsSaid() {
+        check.sentence("Operands that are not as said (for 5 a FLOAT): with the HANDLER of a for 10 + o, or if that is"
+                + " nil, of b");
+        Object[] others = {Held.NIL, false, true, 3L, 0L, 0.5, 4.0, 0.0, 0x1p63, new Held.Fn(1)};
+        for (int o = 0; o < 9; o++) {
+            int operation = o;
+            for (Object other : others) {
+                String what = "operation " + o + ", a TABLE and " + other;
+                LuaValues second = twoTables(10 + o, new Held.Fn(2), Held.NIL);
+                Held.put(second, 6, other);
+                check.due(what, Held.kindOf(other), () -> second.arithmetic(operation, 5, 0, 6));
+                check.due(what + ": then", other, () -> Held.in(second, 5));
+                LuaValues first = twoTables(10 + o, new Held.Fn(1), Held.NIL);
+                Held.put(first, 6, other);
+                check.due(what + " turned", Held.kindOf(other), () -> first.arithmetic(operation, 5, 6, 0));
+                check.due(what + " turned: then", other, () -> Held.in(first, 5));
+                check.due(what + ": one CALL", 1, () -> first.count(3));
+            }
+        }
+        LuaValues asSaid = twoTables(10, new Held.Fn(0), new Held.Fn(0));
+        asSaid.make(6, 2, 3);
+        asSaid.arithmetic(0, 5, 6, 6);
+        check.due("operands that are as said ask none", 0, () -> asSaid.count(3));
+    }
+
+    /** The HANDLER is a TABLE that is called in its turn: with itself and a. */
+    private static void handlersThatAreTables() {
+        check.sentence("CALL of it with a and b, at DEPTH 2; without one: UnsupportedOperationException.");
+        for (int o = 0; o < 9; o++) {
+            int operation = o;
+            LuaValues second = calling(10 + o, new Held.Fn(2));
+            second.make(8, 2, 9);
+            check.due("operation " + o + ", the second is a", 2, () -> second.arithmetic(operation, 6, 8, 4));
+            check.due("operation " + o + ", the second is a", 9L, () -> Held.in(second, 6));
+            LuaValues first = calling(10 + o, new Held.Fn(1));
+            check.due("operation " + o + ", the first is the HANDLER", 4, () -> first.arithmetic(operation, 4, 8, 4));
+            check.due("operation " + o + ", the first is the HANDLER", true, () -> first.compare(3, 4, 0));
+        }
+        check.sentence("CALL with a and b at DEPTH 2, whether the result is TRUE");
+        for (int i = 1; i <= 2; i++) {
+            int what = i;
+            LuaValues second = calling(3 + i, new Held.Fn(2));
+            check.due("what " + what + ", the second is nil", false, () -> second.compare(what, 8, 4));
+            check.due("what " + what + ", the second is a TABLE", true, () -> second.compare(what, 4, 8));
+        }
+    }
+
+    /** Register 4 a TABLE whose HANDLER for the event is the TABLE in register 0, whose HANDLER for CALL is that. */
+    private static LuaValues calling(long event, Object last) {
+        LuaValues v = Held.chain(7, 1, last);
+        v.make(4, 4, 0);
+        v.make(5, 4, 0);
+        Held.entryOf(v, 5, event, 0);
+        v.meta(4, 5);
+        return v;
+    }
+
     /** The HANDLER is called at DEPTH 2, so behind six TABLES a FUNCTION stands at DEPTH 8. */
     private static void depth(int event, int tables, Object want) {
         LuaValues v = Held.chain(7, tables, new Held.Fn(5));
@@ -353,8 +466,8 @@ public final class NumbersEdgesTest {
     }
 
     private static void orderByHandlers() {
-        check.sentence("the HANDLER of a, or else of b, for 4 or 5: CALL with a and b at DEPTH 2, whether the result is"
-                + " TRUE");
+        check.sentence("LESS, LESS OR EQUAL of others: the HANDLER of a, or else of b, for 4 or 5: CALL with a and b at"
+                + " DEPTH 2, whether the result is TRUE");
         for (int i = 1; i <= 2; i++) {
             int what = i;
             long event = 3 + i;

@@ -24,6 +24,8 @@ public final class TablesEdgesTest {
         lengths();
         rawGet();
         rawSetNil();
+        entriesStay();
+        oneTableInManyPlaces();
         nilKey();
         getRefused();
         setRefused();
@@ -70,7 +72,7 @@ public final class TablesEdgesTest {
     }
 
     private static void thirtyOfAllKinds() {
-        check.sentence("A TABLE has at most 30 ENTRIES");
+        check.sentence("A TABLE has at most 30 ENTRIES, a KEY and a VALUE that is not nil each.");
         Object[] keys = {true, 0.5, new Held.Fn(0), Held.TABLE};
         for (Object key : keys) {
             check.refusedIn("a 31st with the KEY " + key, v -> {
@@ -155,8 +157,8 @@ public final class TablesEdgesTest {
     }
 
     private static void ages() {
-        check.sentence("it came later than all that are in the TABLE when its KEY was put in (and changing its VALUE"
-                + " leaves it)");
+        check.sentence("Each ENTRY has an AGE: it came later than all that are in the TABLE when its KEY was put in"
+                + " (and changing its VALUE leaves it).");
         LuaValues v = Held.with(Held.TABLE);
         Held.entry(v, 0, 30L, 1L);
         Held.entry(v, 0, 0.5, 2L);
@@ -203,7 +205,7 @@ public final class TablesEdgesTest {
     }
 
     private static void lengths() {
-        check.sentence("least n >= 0 such that it has no KEY INT n + 1.");
+        check.sentence("Its LENGTH is the least n >= 0 such that it has no KEY INT n + 1.");
         LuaValues v = Held.with(Held.TABLE);
         length("an empty TABLE", v, 0);
         Held.entry(v, 0, 0L, 1L);
@@ -276,6 +278,46 @@ public final class TablesEdgesTest {
                 return empty.set(0, 1, 2, raw);
             });
         }
+    }
+
+    private static void entriesStay() {
+        check.sentence("an INT (64 bits); a FLOAT (a double, never infinite, always a number; 0 is never -0); a TABLE; a"
+                + " FUNCTION 0 .. 5.");
+        Object[] values = {false, true, 5L, 5.0, 0.5, Held.TABLE, new Held.Fn(0), new Held.Fn(5)};
+        for (Object value : values) {
+            for (boolean raw : RAW_OR_NOT) {
+                LuaValues v = Held.with(Held.TABLE, 7L, value, 7L);
+                v.set(0, 1, 2, raw);
+                v.make(1, 2, 8);
+                v.make(2, 2, 9);
+                check.due(value + " when its registers hold others, raw " + raw, Held.kindOf(value),
+                        () -> v.get(4, 0, 3, raw));
+                check.due(value + " is there, raw " + raw, value, () -> Held.in(v, 4));
+                v.make(4, 0, 0);
+                check.due(value + " when what was got is gone, raw " + raw, Held.kindOf(value),
+                        () -> v.get(4, 0, 3, raw));
+                check.due("the KEY then, raw " + raw, 0, () -> v.get(4, 0, 1, raw));
+            }
+        }
+    }
+
+    private static void oneTableInManyPlaces() {
+        check.sentence("REGISTERS 0 .. 11 hold VALUES");
+        LuaValues v = Held.with(Held.TABLE, Held.TABLE, 1L, 2L);
+        v.move(4, 0);
+        check.due("set by the one register", 1, () -> v.set(0, 2, 3, false));
+        check.due("told by the other", 1L, () -> v.whole(4));
+        v.set(1, 2, 0, false);
+        v.set(1, 0, 3, false);
+        v.make(0, 0, 0);
+        v.make(4, 0, 0);
+        check.due("a TABLE that no register holds, got from an ENTRY", 4, () -> v.get(5, 1, 2, false));
+        check.due("its ENTRIES", "1=2 ", () -> Held.walk(v, 5));
+        check.due("it is the KEY of another ENTRY", 2, () -> v.get(6, 1, 5, false));
+        check.due("set then", 2, () -> v.set(5, 3, 3, false));
+        check.due("got once more", 4, () -> v.get(7, 1, 2, false));
+        check.due("its ENTRIES are those", "1=2 2=2 ", () -> Held.walk(v, 7));
+        check.due("it is the same TABLE", true, () -> v.compare(3, 5, 7));
     }
 
     private static void nilKey() {

@@ -174,6 +174,11 @@ public final class ValuesEdgesTest {
     }
 
     private static void kinds() {
+        check.sentence("VALUES: nil; false and true; an INT (64 bits)");
+        for (Object value : VALUES) {
+            LuaValues v = Held.with(value);
+            check.due(value + " is held", value, () -> Held.in(v, 0));
+        }
         check.sentence("KINDS are answered as 0 nil, 1 boolean, 2 INT, 3 FLOAT, 4 TABLE, 5 FUNCTION.");
         for (Object value : VALUES) {
             int due = Held.kindOf(value);
