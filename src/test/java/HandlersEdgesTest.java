@@ -236,6 +236,12 @@ public final class HandlersEdgesTest {
         check.due("FUNCTION 4 asks no HANDLER for 6", 2, () -> v.call(5, 6, 0, 2));
         check.due("FUNCTION 4 of an empty TABLE", 0L, () -> Held.in(v, 5));
         check.due("only those two were done", 2, () -> v.count(3));
+        v.make(4, 4, 0);
+        Held.entry(v, 4, 5L, true);
+        Held.entryOf(v, 1, (long) GET, 4);
+        check.due("the TABLE that is asked has it", 1, () -> v.get(5, 0, 2, false));
+        v.make(6, 5, 3);
+        check.due("FUNCTION 3 does not ask that TABLE", 0, () -> v.call(5, 6, 0, 2));
     }
 
     private static void callsOfTables() {
@@ -286,6 +292,14 @@ public final class HandlersEdgesTest {
         check.due("call of an INT at DEPTH 8", Check.thrown(UNSUPPORTED), () -> seven.call(5, 0, 5, 5));
         LuaValues eight = Held.chain(CALL, 8, 5L);
         check.due("call of an INT at DEPTH 9", Check.thrown(STATE), () -> eight.call(5, 0, 5, 5));
+        for (Object handler : NO_HANDLERS_TO_USE) {
+            LuaValues call = Held.chain(CALL, 8, handler);
+            check.due("call of " + handler + " at DEPTH 9", Check.thrown(STATE), () -> call.call(5, 0, 5, 5));
+            LuaValues get = Held.chain(GET, 8, handler);
+            check.due("get of " + handler + " at DEPTH 9", Check.thrown(STATE), () -> get.get(5, 0, 0, false));
+            LuaValues set = Held.chain(SET, 8, handler);
+            check.due("set of " + handler + " at DEPTH 9", Check.thrown(STATE), () -> set.set(0, 0, 0, false));
+        }
         LuaValues none = Held.chain(CALL, 8, Held.NIL);
         check.due("a TABLE without HANDLER at DEPTH 8", Check.thrown(UNSUPPORTED), () -> none.call(5, 0, 5, 5));
         LuaValues last = Held.chain(CALL, 9, Held.NIL);

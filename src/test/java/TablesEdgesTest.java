@@ -404,6 +404,15 @@ public final class TablesEdgesTest {
         check.due("a gap at 2", "1=5 3=1 true=2 0=4 5=6 4=7 ", () -> Held.walk(v, 0));
         Held.entry(v, 0, 1L, Held.NIL);
         check.due("a gap at 1", "3=1 true=2 0=4 5=6 4=7 ", () -> Held.walk(v, 0));
+        LuaValues great = Held.with(Held.TABLE);
+        long above = 1L << 32;
+        Held.entry(great, 0, above + 1, 1L);
+        Held.entry(great, 0, 2 - above, 2L);
+        length("KEYS that are 1 and 2 in their last 32 bits", great, 0);
+        Held.entry(great, 0, 2L, 3L);
+        Held.entry(great, 0, 1L, 4L);
+        length("with the KEYS 1 and 2", great, 2);
+        check.due("1 and 2 first", "1=4 2=3 " + (above + 1) + "=1 " + (2 - above) + "=2 ", () -> Held.walk(great, 0));
     }
 
     private static void nextAtItsEnds() {

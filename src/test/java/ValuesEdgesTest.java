@@ -537,6 +537,21 @@ public final class ValuesEdgesTest {
         raw.set(0, 2, 2, false);
         raw.get(3, 0, 2, false);
         check.due("none where none is asked", 0, () -> raw.count(3));
+        countStays();
+    }
+
+    private static void countStays() {
+        LuaValues v = Held.with(Held.TABLE, Held.TABLE, 5L, new Held.Fn(0));
+        v.call(5, 3, 3, 3);
+        Check.Call[] calls = {() -> v.make(4, 4, 0), () -> v.make(4, 0, 0), () -> v.make(3, 2, 1),
+            () -> v.real(4, 2.5, 1), () -> v.move(5, 4), () -> v.arithmetic(0, 5, 4, 2), () -> v.compare(0, 0, 1),
+            () -> v.set(0, 2, 2, false), () -> v.get(5, 0, 2, false), () -> v.meta(0, 1), () -> v.length(5, 0),
+            () -> v.next(5, 0, 11), () -> v.kind(0), () -> v.whole(0), () -> v.number(2), () -> v.count(0),
+            () -> v.call(5, 2, 2, 2), () -> v.make(99, 4, 0), () -> v.arithmetic(4, 5, 2, 0)};
+        for (int i = 0; i < calls.length; i++) {
+            Check.answer(calls[i]);
+            check.due("the one of before, after call " + i, 1, () -> v.count(3));
+        }
     }
 
     private static Object happen(LuaValues v, int event) {
